@@ -473,7 +473,7 @@ public final class SnowSchool {
     }
 
     private static boolean has(int set, int number) {
-        return (set >> number & 1) != 0;
+        return ((set >> number) & 1) != 0;
     }
 
     private static boolean isTongues(int tongues) {
@@ -811,7 +811,7 @@ public final class SnowSchool {
 
         /** Whether there is a CLASSING; if so, the best one's sets stand in plan. */
         boolean plans(Roll roll, boolean atNoon) {
-            int here = roll.here & SETS - 1;
+            int here = roll.here & (SETS - 1);
             priceAllSets(roll, here, atNoon);
             Arrays.fill(least, UNREACHED);
             least[0] = 0;
@@ -824,7 +824,7 @@ public final class SnowSchool {
             }
             long whole = least[here];
             for (int t = 0; t < MOST_TEACHERS; t++) {
-                plan[t] = (int) (whole >> tieShift(t)) & SETS - 1;
+                plan[t] = (int) (whole >> tieShift(t)) & (SETS - 1);
             }
             return whole < UNREACHED;
         }
@@ -864,10 +864,17 @@ public final class SnowSchool {
         private void placeParts(int t, int here) {
             for (int done = here; done >= 0; done--) {
                 if (isWorthGoingOn(done, here)) {
-                    int rest = here & ~done & pools[t];
-                    for (int set = rest; set > 0; set = (set - 1) & rest) {
-                        place(t, done, set);
-                    }
+                    placeEachOf(here & ~done & pools[t], prices[t], done);
+                }
+            }
+        }
+
+        private void placeEachOf(int rest, long[] priceOfSet, int done) {
+            long paid = least[done];
+            for (int set = rest; set > 0; set = (set - 1) & rest) {
+                long sum = paid + priceOfSet[set];
+                if (sum < least[done | set]) {
+                    least[done | set] = sum;
                 }
             }
         }
@@ -876,21 +883,14 @@ public final class SnowSchool {
         private void placeRest(int t, int here) {
             for (int done = here; done >= 0; done--) {
                 if (isWorthGoingOn(done, here)) {
-                    place(t, done, here & ~done);
+                    least[here] = Math.min(least[here], least[done] + prices[t][here & ~done]);
                 }
             }
         }
 
-        /** Never for all that are here: whoever is left has at least one more class to pay for. */
+        /** Whoever is left has at least one more class to pay for. */
         private boolean isWorthGoingOn(int done, int here) {
             return least[done] + cheapest < least[here];
-        }
-
-        private void place(int t, int done, int set) {
-            long sum = least[done] + prices[t][set];
-            if (sum < least[done | set]) {
-                least[done | set] = sum;
-            }
         }
     }
 

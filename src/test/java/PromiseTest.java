@@ -159,6 +159,10 @@ public final class PromiseTest {
         due("of(0, 1)", x.of(0, 1), 44);
         due("of(0, 2)", x.of(0, 2), 6);
         due("of(0, 8)", x.of(0, 8), 1);
+        x.ill(1, true);
+        x.classing();
+        due("of(0, 8)", x.of(0, 8), 0);
+        due("of(1, 8): it is not HERE", x.of(1, 8), -1);
         due("of(2, 0)", x.of(2, 0), BEYOND);
         due("of(-1, 0)", x.of(-1, 0), BEYOND);
         due("of(0, 10)", x.of(0, 10), BEYOND);
@@ -317,6 +321,7 @@ public final class PromiseTest {
         mayByLevel(x);
         mayByTerms(x);
         mayByFriends(x);
+        mayAnew();
         due("may(4, 1)", x.may(4, 1), BEYOND);
         due("may(-1, 1)", x.may(-1, 1), BEYOND);
         due("may(0, 0)", x.may(0, 0), BEYOND);
@@ -373,6 +378,32 @@ public final class PromiseTest {
         due("may(3, 3): AGES ahead of a FRIEND", x.may(3, 3), 5);
     }
 
+    /** Nothing of one set is left over in the next; PUPILS that come behind TEACHERS count as others do. */
+    private static void mayAnew() {
+        SnowSchool x = new SnowSchool();
+        x.teacher(0, 2);
+        x.teacher(2, 4);
+        x.pupil(0, 90, 2);
+        x.pupil(0, 90, 6);
+        x.pupil(3, 3, 4);
+        x.pupil(2, 50, 4);
+        x.pupil(0, 50, 4);
+        x.terms(2, 0, 2, 1);
+        x.friend(1, 0);
+        due("may(0, 3): both are 90", x.may(0, 3), 0);
+        due("may(0, 2): FRIEND 0", x.may(0, 2), 6);
+        due("may(0, 1)", x.may(0, 1), 0);
+        due("may(0, 4)", x.may(0, 4), 2);
+        due("may(1, 12)", x.may(1, 12), 4);
+        due("may(1, 4)", x.may(1, 4), 0);
+        due("may(1, 24)", x.may(1, 24), 0);
+        x.friend(1, -1);
+        due("may(1, 2)", x.may(1, 2), 0);
+        x.saw(1, 9, 9);
+        due("may(0, 2)", x.may(0, 2), 7);
+        due("may(0, 1)", x.may(0, 1), 0);
+    }
+
     private static void classing() {
         SnowSchool x = school(1, 0);
         due("classing() without TEACHERS", x.classing(), NONE);
@@ -396,6 +427,28 @@ public final class PromiseTest {
         sets(x, 0, 0, 0);
         classingByWorth();
         classingAtItsSize();
+        classingOfTornFriends();
+    }
+
+    private static void classingOfTornFriends() {
+        SnowSchool x = new SnowSchool();
+        x.pupil(0, 20, 1);
+        x.pupil(0, 20, 2);
+        x.pupil(0, 20, 3);
+        x.teacher(0, 1);
+        x.teacher(0, 2);
+        x.teacher(0, 8);
+        x.friend(0, 2);
+        due("classing()", x.classing(), 2);
+        sets(x, 5, 2);
+        x.friend(1, 2);
+        due("classing(): no PUPIL is in two", x.classing(), NONE);
+        due("noon()", x.noon(), NONE);
+        due("worth()", x.worth(), NONE);
+        sets(x, 5, 2);
+        x.here(2, false);
+        due("classing()", x.classing(), 2);
+        sets(x, 1, 2);
     }
 
     private static void classingByWorth() {
@@ -516,6 +569,11 @@ public final class PromiseTest {
         due("worth()", x.worth(), 9);
         x.terms(6, 90, 9, 9);
         due("worth()", x.worth(), 36);
+        x.terms(6, 90, 1, 9);
+        x.wish(2, 0);
+        due("worth(): not of the CLASSING AT NOON", x.worth(), 18);
+        x.wish(2, -1);
+        x.terms(6, 90, 9, 9);
         x.here(2, false);
         due("worth(): only of those HERE", x.worth(), 27);
         x.ill(1, true);
@@ -603,6 +661,10 @@ public final class PromiseTest {
         due("meeting(-1)", x.meeting(-1), BEYOND);
         due("meeting(4)", x.meeting(4), 5);
         due("serves(1) from 4", x.serves(1), 1);
+        due("stranded(1, 0) from 4", x.stranded(1, 0), 32);
+        x.slope(4, 3, 0);
+        x.lift(0, 4);
+        due("serves(1) from 4: 3 leads nowhere", x.serves(1), 1);
     }
 
     private static void serves() {
@@ -645,6 +707,17 @@ public final class PromiseTest {
         due("serves(1): round by 0", x.serves(1), 1);
         x.lift(3, 2);
         due("serves(1): round by all", x.serves(1), 7);
+        for (int meeting = 0; meeting < 6; meeting += 5) {
+            SnowSchool y = school(1, 0);
+            y.meeting(meeting);
+            for (int p = 0; p < 5; p++) {
+                y.slope(meeting == 0 ? p : 5 - p, meeting == 0 ? p + 1 : 4 - p, 0);
+            }
+            due("serves(1): no way back from the end", y.serves(1), 0);
+            y.lift(5 - meeting, meeting);
+            due("serves(1): the longest way round", y.serves(1), 31);
+            due("stranded(1, 0): all but THE MEETING", y.stranded(1, 0), 63 - (1 << meeting));
+        }
     }
 
     private static void stranded() {
@@ -753,6 +826,9 @@ public final class PromiseTest {
         x.here(9, true);
         x.back(3);
         due("left()", x.left(), 682);
+        SnowSchool y = new SnowSchool();
+        y.pupil(3, 9, 1);
+        due("left(): 0", y.left(), 1);
     }
 
     private static void ask() {
@@ -1045,6 +1121,16 @@ public final class PromiseTest {
         x.sheet(1, 32, 4);
         x.write(1, 3, MIN);
         due("read(1)", x.read(1), BEYOND);
+        x.write(1, 3, 9);
+        x.write(1, 0, 100);
+        due("read(1)", x.read(1), BEYOND);
+        x.write(1, 0, 9);
+        x.write(1, 1, 9);
+        x.write(1, 2, 9);
+        x.write(1, 3, 45);
+        due("read(1): as many as PUPILS", x.read(1), 4);
+        spans[3] = new int[] {4, 5};
+        spans(x, spans);
         x.sheet(1, 16, 0);
         due("read(1): none", x.read(1), 0);
         due("read(2)", x.read(2), MISSING);
