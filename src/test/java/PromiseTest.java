@@ -1170,6 +1170,45 @@ public final class PromiseTest {
         x.back(0);
         x.read(0);
         due("told(6)", x.told(6), 7);
+        toldOfAFullHouse();
+    }
+
+    /** As many of all as there may be, the one that nobody has asked for, taught or booked last. */
+    private static void toldOfAFullHouse() {
+        SnowSchool x = school(0, 5);
+        for (int p = 0; p < 10; p++) {
+            due("pupil(1, 20, 1)", x.pupil(1, 20, 1), p);
+            due("of(" + p + ", 7)", x.of(p, 7), -1);
+            due("of(" + p + ", 8)", x.of(p, 8), -1);
+        }
+        for (int i = 0; i < 6; i++) {
+            x.lift(i % 2 * 5, 5 - i % 2 * 5);
+        }
+        for (int i = 0; i < 8; i++) {
+            x.slope(i % 6, (i + 1) % 6, 0);
+        }
+        for (int i = 0; i < 10; i++) {
+            x.ask(i % 5, i / 5, i / 5, i);
+        }
+        x.sheet(0, 32, 10);
+        due("serves(1023)", x.serves(1023), 255);
+        due("stranded(1023, 5)", x.stranded(1023, 5), 0);
+        due("level(1023)", x.level(1023), 0);
+        due("level(1024)", x.level(1024), BEYOND);
+        due("may(4, 1023)", x.may(4, 1023), 4);
+        due("read(0)", x.read(0), 10);
+        due("book(9)", x.book(9), 9);
+        due("choose(4)", x.choose(4), 2);
+        due("choice(3, false)", x.choice(3, false), 264);
+        due("left()", x.left(), 1023);
+        due("classing()", x.classing(), 2);
+        sets(x, 0, 0, 0, 15, 1008);
+        due("noon()", x.noon(), 0);
+        due("worth()", x.worth(), 20);
+        int[] wanted = {10, 5, 2, 6, 8, 2, 1};
+        for (int what = 0; what < 7; what++) {
+            due("told(" + what + ")", x.told(what), wanted[what]);
+        }
     }
 
     private static void each(int number) {
