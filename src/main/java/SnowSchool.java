@@ -500,7 +500,7 @@ public final class SnowSchool {
         int handedTo = -1;
 
         boolean isA(int wanted) {
-            return isBelow(kind, KINDS) && has(PUPIL_KINDS[kind], wanted);
+            return kind >= 0 && kind < PUPIL_KINDS.length && ((PUPIL_KINDS[kind] >> wanted) & 1) != 0;
         }
 
         /** False, and nothing changed, if the spans have no skill in common (a turned one never has). */
@@ -550,7 +550,7 @@ public final class SnowSchool {
         int taught;
 
         boolean isA(int wanted) {
-            return isBelow(kind, KINDS) && has(TEACHER_KINDS[kind], wanted);
+            return kind >= 0 && kind < TEACHER_KINDS.length && ((TEACHER_KINDS[kind] >> wanted) & 1) != 0;
         }
 
         boolean isGoodEnoughFor(Group group) {
@@ -739,6 +739,17 @@ public final class SnowSchool {
                     + wishWorth * Integer.bitCount(set & one.askedBy);
         }
 
+        /** The PUPILS whose TEACHER may still be theirs; all others move in every CLASSING AT NOON. */
+        int settled() {
+            int set = 0;
+            for (int t = 0; t < teacherCount; t++) {
+                if (!teachers[t].isIll) {
+                    set |= teachers[t].taught;
+                }
+            }
+            return set;
+        }
+
         int movedTo(Teacher one, int set) {
             return Integer.bitCount(set & ~one.taught);
         }
@@ -804,7 +815,10 @@ public final class SnowSchool {
         private final long[][] prices = new long[MOST_TEACHERS][SETS];
         /** For each TEACHER all PUPILS of sets that it MAY TEACH: no other sets are worth a try. */
         private final int[] pools = new int[MOST_TEACHERS];
-        private long cheapest;
+        /** For each TEACHER the least price of a class that it, or one ahead of it, may have. */
+        private final long[] cheapest = new long[MOST_TEACHERS];
+        /** No class has more PUPILS. */
+        private int largest;
         /** For each set of PUPILS the least price at which just these have been placed. */
         private final long[] least = new long[SETS];
         final int[] plan = new int[MOST_TEACHERS];
@@ -815,12 +829,9 @@ public final class SnowSchool {
             priceAllSets(roll, here, atNoon);
             Arrays.fill(least, UNREACHED);
             least[0] = 0;
-            int last = roll.teacherCount - 1;
-            for (int t = 0; t < last; t++) {
-                placeParts(t, here);
-            }
-            if (last >= 0) {
-                placeRest(last, here);
+            // The last TEACHER first: ties go to it, so a good CLASSING soon stands against which all else is dear.
+            for (int t = roll.teacherCount - 1; t >= 0; t--) {
+                placeBy(t, here);
             }
             long whole = least[here];
             for (int t = 0; t < MOST_TEACHERS; t++) {
@@ -831,42 +842,60 @@ public final class SnowSchool {
 
         private void priceAllSets(Roll roll, int here, boolean atNoon) {
             Arrays.fill(pools, 0);
-            cheapest = UNREACHED;
+            Arrays.fill(cheapest, UNREACHED);
+            largest = 0;
+            int settled = atNoon ? roll.settled() : 0;
             for (int set = here; set > 0; set = (set - 1) & here) {
                 Group group = roll.gather(set);
                 for (int t = 0; t < roll.teacherCount; t++) {
-                    long price = priceOf(roll, t, group, atNoon);
-                    prices[t][set] = price;
-                    if (price < UNREACHED) {
+                    long price = UNREACHED;
+                    if (roll.reasonAgainst(roll.teachers[t], group) == 0) {
+                        long cost = atNoon ? noonCost(roll, t, set & settled) : dayCost(roll, t, set);
+                        price = (cost << TIE_BITS) + ((long) set << tieShift(t));
                         pools[t] |= set;
-                        cheapest = Math.min(cheapest, price);
+                        cheapest[t] = Math.min(cheapest[t], price);
+                        largest = Math.max(largest, group.size);
                     }
+                    prices[t][set] = price;
                 }
+            }
+            for (int t = 1; t < MOST_TEACHERS; t++) {
+                cheapest[t] = Math.min(cheapest[t], cheapest[t - 1]);
             }
         }
 
-        private static long priceOf(Roll roll, int t, Group group, boolean atNoon) {
-            Teacher one = roll.teachers[t];
-            if (roll.reasonAgainst(one, group) != 0) {
-                return UNREACHED;
-            }
-            long cost = atNoon
-                    ? MOVE_WEIGHT * roll.movedTo(one, group.members) + 1
-                    : CLASS_WEIGHT - roll.worthOf(one, group.members);
-            return (cost << TIE_BITS) + ((long) group.members << tieShift(t));
+        private static int dayCost(Roll roll, int t, int set) {
+            return CLASS_WEIGHT - roll.worthOf(roll.teachers[t], set);
+        }
+
+        private static int noonCost(Roll roll, int t, int settledSet) {
+            return MOVE_WEIGHT * roll.movedTo(roll.teachers[t], settledSet) + 1;
         }
 
         private static int tieShift(int t) {
             return MOST_PUPILS * (MOST_TEACHERS - 1 - t);
         }
 
-        /** Goes down, so that what this TEACHER has just placed (a greater set) is not its start again. */
-        private void placeParts(int t, int here) {
+        /**
+         * Goes down, so that what this TEACHER has just placed (a greater set) is not its start again. To take
+         * all the rest is tried first: a part is worth a try only if enough others are left, and still pay.
+         */
+        private void placeBy(int t, int here) {
             for (int done = here; done >= 0; done--) {
-                if (isWorthGoingOn(done, here)) {
-                    placeEachOf(here & ~done & pools[t], prices[t], done);
+                long paid = least[done];
+                if (paid + cheapest[t] < least[here]) {
+                    int rest = here & ~done;
+                    least[here] = Math.min(least[here], paid + prices[t][rest]);
+                    int more = Math.max(2, classesFor(rest));
+                    if (more <= t + 1 && paid + more * cheapest[t] < least[here]) {
+                        placeEachOf(rest & pools[t], prices[t], done);
+                    }
                 }
             }
+        }
+
+        private int classesFor(int rest) {
+            return largest > 0 ? (Integer.bitCount(rest) + largest - 1) / largest : 0;
         }
 
         private void placeEachOf(int rest, long[] priceOfSet, int done) {
@@ -877,20 +906,6 @@ public final class SnowSchool {
                     least[done | set] = sum;
                 }
             }
-        }
-
-        /** Behind the last TEACHER nobody may be left: it takes all the rest or nothing. */
-        private void placeRest(int t, int here) {
-            for (int done = here; done >= 0; done--) {
-                if (isWorthGoingOn(done, here)) {
-                    least[here] = Math.min(least[here], least[done] + prices[t][here & ~done]);
-                }
-            }
-        }
-
-        /** Whoever is left has at least one more class to pay for. */
-        private boolean isWorthGoingOn(int done, int here) {
-            return least[done] + cheapest < least[here];
         }
     }
 

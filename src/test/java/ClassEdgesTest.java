@@ -176,6 +176,11 @@ public final class ClassEdgesTest {
                 SnowSchool::classing);
         EDGES.answers("a TINY while half of MOST is 1", 1, room(0, 5, 2).then(x -> x.pupil(3, 20, 1)),
                 SnowSchool::classing);
+        Edges.Deed shared = room(4, 5, 2).then(x -> x.friend(1, 0)).then(x -> x.friend(2, 0));
+        EDGES.refuses("a FRIEND of two can't be in two CLASSES", NONE, shared, SnowSchool::classing);
+        EDGES.refuses("a FRIEND of two can't be in two CLASSES AT NOON", NONE, shared, SnowSchool::noon);
+        EDGES.answers("a FRIEND of two in one CLASS with both", 2, shared.then(x -> x.terms(3, 90, 2, 1)),
+                SnowSchool::classing);
         int[][] rooms = {{5, 5, 1, 5}, {6, 5, 1, NONE}, {10, 5, 2, 5}, {10, 4, 2, NONE}, {10, 1, 10, 1},
             {10, 1, 9, NONE}, {10, 2, 9, 2}, {10, 2, 5, 2}, {10, 2, 4, NONE}, {10, 5, 10, 1}, {1, 5, 10, 1}};
         for (int[] r : rooms) {
@@ -198,7 +203,19 @@ public final class ClassEdgesTest {
         EDGES.promise(14);
         Edges.Deed asking = Edges.school(2, 2).then(x -> x.wish(0, 0)).then(x -> x.wish(1, 1));
         sets("fewest CLASSES ahead of WORTH", asking.then(x -> x.terms(2, 90, 9, 9)), true, 0, 3);
+        Edges.Deed dear = ClassEdgesTest::makeTwoClassesOfGreatestWorth;
+        sets("one CLASS less ahead of all the WORTH there can be", dear, true, 0, 0, 1023);
+        EDGES.answers("one CLASS less: its WORTH is 0", 0, dear, SnowSchool::worth);
+        sets("the WORTH was there", dear.then(x -> x.terms(5, 90, 9, 9)), true, 31, 992, 0);
+        EDGES.answers("the WORTH was 180", 180, dear.then(x -> x.terms(5, 90, 9, 9)), SnowSchool::worth);
         sets("WORTH ahead of the least sets", Edges.school(2, 2).then(x -> x.wish(0, 0)), true, 3, 0);
+        sets("WORTH ahead of the least sets, two CLASSES needed", x -> {
+            x.teacher(0, 1);
+            x.teacher(0, 2);
+            x.teacher(0, 1);
+            x.wish(x.pupil(0, 20, 1), 0);
+            x.pupil(0, 20, 2);
+        }, true, 1, 2, 0);
         sets("of equal WORTH TEACHER 0 has none", Edges.school(2, 2), true, 0, 3);
         sets("of equal WORTH, both needed: the least for TEACHER 0", room(3, 2, 2), true, 1, 6);
         sets("then the least for TEACHER 1", room(3, 3, 1), true, 1, 2, 4);
@@ -295,8 +312,41 @@ public final class ClassEdgesTest {
                 Edges.school(2, 1).then(SnowSchool::classing).then(x -> x.here(0, false)), false, 2);
         sets("nobody is HERE any more: no CLASSES",
                 Edges.school(1, 1).then(SnowSchool::classing).then(x -> x.here(0, false)), false, 0);
+        Edges.Deed parted = ClassEdgesTest::makeOneWhoStaysAlone;
+        EDGES.answers("one who stays ahead of three CLASSES less: who moved", 4, parted, SnowSchool::noon);
+        sets("one who stays ahead of three CLASSES less", parted, false, 1, 2, 4, 8, 16);
+        sets("classing() has three CLASSES less", parted, true, 30, 1, 0, 0, 0);
+        Edges.Deed ill = room(4, 3, 2).then(SnowSchool::classing).then(x -> x.terms(3, 90, 2, 1))
+                .then(x -> x.ill(2, true));
+        EDGES.answers("those of one that is ILL move, the others stay", 2, ill, SnowSchool::noon);
+        sets("those of one that is ILL move, the others stay", ill, false, 4, 11, 0);
+        EDGES.answers("ILL no more: all stay", 0, ill.then(x -> x.ill(2, false)), SnowSchool::noon);
         sets("the fewest move, though KEEP is 0", Edges.school(2, 2).then(x -> x.wish(0, 0)).then(SnowSchool::classing)
                 .then(x -> x.terms(6, 90, 0, 9)).then(x -> x.wish(0, 1)), false, 3, 0);
+    }
+
+    /** PUPIL 0 has TEACHER 0, who could teach 1 to 4 (new) together if it went; else each has a TEACHER alone. */
+    private static void makeOneWhoStaysAlone(SnowSchool x) {
+        x.teacher(0, 15);
+        x.pupil(0, 20, 1);
+        x.classing();
+        x.saw(0, 0, 2);
+        for (int i = 0; i < 4; i++) {
+            x.teacher(0, 1 << i);
+            x.saw(x.pupil(0, 20, 1 << i), 3, 9);
+        }
+    }
+
+    /** PUPILS 0 to 4 have and ask for TEACHER 0, the others TEACHER 1; all at once only TEACHER 2 may teach. */
+    private static void makeTwoClassesOfGreatestWorth(SnowSchool x) {
+        for (int t = 0; t < 3; t++) {
+            x.teacher(0, 1 + t);
+        }
+        for (int p = 0; p < 10; p++) {
+            x.wish(x.pupil(0, 20, 1 + p / 5), p / 5);
+        }
+        x.classing();
+        x.terms(10, 90, 9, 9);
     }
 
     private static void worth() {
