@@ -19,6 +19,10 @@ public final class LanguageTest {
         "volatile", "native", "protected", "package", "var", "System\\.(?!arraycopy)\\w+", "Thread", "Random", "Object",
         "\\w+Exact", "hashCode", "toString", "equals", "getClass", "->", "::", "for \\(;;", "while \\(true"};
     private static final Pattern IMPORT = Pattern.compile("import ([^;]+);");
+    private static final Pattern LIBRARY = Pattern.compile("\\b(Arrays|Integer|Long|Math|System|String|List)\\.\\w+");
+    private static final Set<String> LIBRARY_USED = Set.of("Arrays.fill", "Integer.bitCount", "Math.max", "Math.min",
+        "System.arraycopy");
+    private static final Set<Class<?>> NUMBERS = Set.of(int.class, long.class, boolean.class);
 
     private static int wrong;
     private static int looked;
@@ -61,6 +65,10 @@ public final class LanguageTest {
         for (Method m : SnowSchool.class.getMethods()) {
             face.add(m.getName());
         }
+        for (Method m : SnowSchool.class.getDeclaredMethods()) {
+            boolean isHidden = Modifier.isPrivate(m.getModifiers());
+            hold(!isHidden || !face.contains(m.getName()), m + " bears no name of the face");
+        }
         for (Field f : SnowSchool.class.getDeclaredFields()) {
             hold(Modifier.isPrivate(f.getModifiers()), f + " is private");
         }
@@ -85,12 +93,25 @@ public final class LanguageTest {
             boolean isStatic = Modifier.isStatic(f.getModifiers());
             hold(!isStatic || Modifier.isFinal(f.getModifiers()), f + " is final or not static");
             fields += isStatic ? 0 : 1;
+            hold(isStatic ? isConstantType(f.getType()) : isFieldType(f.getType()), f + " is of a type that may be");
         }
         hold(fields <= 20, one + " has twenty fields at most");
         for (Method m : one.getDeclaredMethods()) {
             hold(m.getParameterCount() <= 7, m + " takes seven parameters at most");
             hold(!m.isSynthetic(), m + " is written out");
         }
+    }
+
+    private static boolean isConstantType(Class<?> type) {
+        return NUMBERS.contains(type) || type == int[].class || type == long[].class;
+    }
+
+    /** Numbers, rows and tables of them, own classes and rows of these. */
+    private static boolean isFieldType(Class<?> type) {
+        Class<?> inner = type.isArray() ? type.getComponentType() : type;
+        boolean isOwn = inner.getDeclaringClass() == SnowSchool.class;
+        boolean isTable = inner == int[].class || inner == long[].class;
+        return NUMBERS.contains(inner) || isOwn || isTable;
     }
 
     private static void textKeepsToTheRules() throws IOException {
@@ -112,6 +133,10 @@ public final class LanguageTest {
             imports.add(m.group(1));
         }
         hold(Set.of("java.util.Arrays").equals(imports), "only java.util.Arrays: " + imports);
+        Matcher library = LIBRARY.matcher(code.replaceAll("import [^;]+;", ""));
+        while (library.find()) {
+            hold(LIBRARY_USED.contains(library.group()), library.group() + " is not of the library that is listed");
+        }
         methodsAreShort(code);
     }
 
